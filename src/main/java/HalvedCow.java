@@ -6,6 +6,8 @@ public final class HalvedCow {
     private static final int ROWS = 6, ROW_ROOM = 40, TEXTS = 4, TEXT_ROOM = 60, KEPT_PLACES = 3;
     private static final int MOST_TURNS = 8, MOST_MILKS = 6, MOST_BEASTS = 6, MOST_DEEDS = 60;
     private static final int LAST_DAY = 999, MOST_SUM = 99, MOST_LEAD = 99, MOST_BILL = 9999, EVEN_DAYS = 24;
+    /** No gap, no number of WALKS comes near it. */
+    private static final int ABOVE_ALL = 1000000;
     private static final int MISSING = -1, BLANK = 32, PUT_SHIFT = 1000, PAID_SHIFT = 10000;
 
     private static final int DRY = 1, YOUNG = 2, BULL = 3, HEIFER = 4, OX = 5;
@@ -353,8 +355,8 @@ public final class HalvedCow {
             return STATE;
         }
         int bestCode = 0;
-        int leastGap = Integer.MAX_VALUE;
-        int fewestWalks = Integer.MAX_VALUE;
+        int leastGap = ABOVE_ALL;
+        int fewestWalks = ABOVE_ALL;
         for (int code = 0; code < 1 << n; code++) {
             int gap = Math.abs(leadByCode(code, n));
             int walked = walksByCode(code, n);
@@ -466,7 +468,7 @@ public final class HalvedCow {
         for (int i = 0; i < now.beastCount; i++) {
             partings *= 3;
         }
-        int least = Integer.MAX_VALUE;
+        int least = ABOVE_ALL;
         int first = 0;
         for (int parting = 0; parting < partings; parting++) {
             int gap = gapOfHeirs(parting);

@@ -464,6 +464,14 @@ public final class PromisesTest {
         due("BEASTS", x.value(1, 0), 4);
         due("kept DEEDS undone", x.undo(1), 2);
         due("TODAY", x.count(3), 0);
+        x.undo(0);
+        x.pay(1, 9);
+        x.pay(1, 9);
+        due("kept stays as it was", x.on(2), 3);
+        due("kept DEEDS undone", x.undo(2), 1);
+        due("the SUM", x.count(5), 10000);
+        due("kept DEEDS undone", x.undo(0), 2);
+        due("the BEAST", x.value(0, 0), 2);
         due("kept stays as it was", x.on(2), 3);
         due("gone on from", x.day(), 2);
         due("kept stays as it was", x.on(2), 3);
@@ -564,6 +572,10 @@ public final class PromisesTest {
         HalvedCow refused = new HalvedCow();
         refused.best(8, 0);
         due("refused: no ROW", refused.count(7), 0);
+        x = with("tb m0 c1a");
+        due("no MILK", x.best(8, 2), 0);
+        due("no WALK", x.asked(), 0);
+        due("FARM 0's", told(x, 2, 7), 0);
         x = with("ta m152 c1a");
         due("fewest WALKS", x.best(4, 2), 1);
         due("WALKS", x.asked(), 2);
@@ -619,6 +631,9 @@ public final class PromisesTest {
         due("too much", x.fair(), 0);
         due("FARM 0 would", with("ta m1 y1a u1b").fair(), 0);
         due("each by its own", with("ta m1 u1a y1b").fair(), 1);
+        due("FARM 0 by its own", with("ta m1 u2a c3b").fair(), 1);
+        due("FARM 1 by its own", with("ta m1 c3a y2b").fair(), 1);
+        due("FARM 1 by its own", with("ta m1 y2a c3b").fair(), 0);
         due("no BEASTS", new HalvedCow().fair(), STATE);
 
         promise = 30;
@@ -731,6 +746,8 @@ public final class PromisesTest {
         due("NONE is unlike any FARM", with("ta m1 c1a").quarrel(7, 0, 3), 7);
         due("never", with("ta m1 c1a").quarrel(0, 0, 1), NONE);
         due("MILK of the DAYS ahead", with("tabb m900000 c1a").quarrel(3, 1, 2), 3);
+        due("alike up to the DAY ahead", with("tab m1 c1a").quarrel(1, 0, 2), 1);
+        due("MILK of that DAY once", with("tba m12 c1a").quarrel(1, 0, 2), 2);
         due("quarrel(1000, 0, 1)", x.quarrel(1000, 0, 1), BAD);
         due("quarrel(-1, 0, 1)", x.quarrel(-1, 0, 1), BAD);
         due("quarrel(0, 4, 1)", x.quarrel(0, 4, 1), BAD);
@@ -752,6 +769,8 @@ public final class PromisesTest {
         x = with("tba m01 c1a");
         partTold("no MILK", x, x.bill(9, 0), 9, 2);
         partTold("no MILK", x, x.bill(8, 0), 4, 1);
+        x = with("tba m31 c1a");
+        partTold("FARM 1's DAY 0", x, x.bill(8, 1), 2, 1);
         x = with("tb m1 c1a");
         partTold("FARM 1's alone", x, x.bill(9, 9), 0, 1);
 
@@ -864,6 +883,11 @@ public final class PromisesTest {
         due("lots(1, -1)", x.lots(1, -1), BAD);
         due("lots(1, MAX)", x.lots(1, MAX), BAD);
         due("no BEASTS", new HalvedCow().lots(1, 1), STATE);
+        HalvedCow five = with("ta m1 c1a c2a c3a c4a c5a");
+        // 4 comes to 193084 (1 modulo 3): BEAST 193084 / 8 % 5, so 0; by 7 or 9 it would be another one
+        due("lots(1, 4)", five.lots(1, 4), 4);
+        due("BEAST 0", five.value(1, 0), 2);
+        due("of one", with("ta m1 c1a").lots(1, 4), 0);
         due("DEEDS are undone", x.undo(0), 60);
         due("PAID", x.count(5), 10000);
         due("whose", x.value(0, 0), 2);
@@ -913,6 +937,7 @@ public final class PromisesTest {
         for (int what = 0; what <= 9; what++) {
             due("count(" + what + ")", x.count(what), counts[what]);
         }
+        due("a BULL ahead", with("ta m1 u1a").count(6), 1);
         due("count(10)", x.count(10), BAD);
         due("count(-1)", x.count(-1), BAD);
 
