@@ -48,19 +48,12 @@ public final class HalvedCow {
     }
 
     public int lay(int r, int i, int v) {
-        if (isNone(r, ROWS)) {
-            return BAD;
+        // What it was is told, and what is wrong refused, just as at() does it.
+        int answer = at(r, i);
+        if (answer == 1 && !isNone(r, ROWS) && rows[r].has(i)) {
+            rows[r].places[i] = v;
         }
-        Row row = rows[r];
-        if (row.isMissing()) {
-            return refuse(NOTHING);
-        }
-        if (!row.has(i)) {
-            return refuse(BEYOND);
-        }
-        askedTold = row.places[i];
-        row.places[i] = v;
-        return 1;
+        return answer;
     }
 
     public int at(int r, int i) {
