@@ -1,3 +1,4 @@
+import java.lang.reflect.Method;
 import java.math.BigInteger;
 import java.util.ArrayList;
 import java.util.Arrays;
@@ -6,10 +7,15 @@ import java.util.Random;
 import java.util.regex.Matcher;
 import java.util.regex.Pattern;
 
-/** Long runs of calls by a fixed seed, held against a second, plain writing of the document. */
+/**
+ * Long runs of calls by a fixed seed, and each call with numbers at and beyond all boundaries, held against a second,
+ * plain writing of the document.
+ */
 public final class ModelTest {
-    private static final int RUNS = 600;
+    private static final int RUNS = 2400;
+    /** Behind these what an object answers is free. */
     private static final int CALLS = 512;
+    private static final int QUESTIONS = 10;
 
     private static final String[] CALLS_BY_NAME = {
         "row", "lay", "at", "tear", "copy", "mean", "text", "put", "fault", "farms", "beast", "mark", "turn",
@@ -25,7 +31,82 @@ public final class ModelTest {
                 System.exit(1);
             }
         }
-        System.out.println(RUNS + " runs of " + CALLS + " calls as the model has them");
+        System.out.println(RUNS + " runs of up to " + CALLS + " calls as the model has them");
+        int tried = 0;
+        for (int stage = 0; stage < Sweep.STAGES; stage++) {
+            for (String name : CALLS_BY_NAME) {
+                tried += new Sweep(stage, name).go();
+            }
+        }
+        System.out.println(tried + " calls at boundaries as the model has them");
+    }
+
+    /** One call by its name with all of some numbers, on objects that stand as they stood at first. */
+    private static final class Sweep {
+        static final int STAGES = 5;
+        static final int MIN = Integer.MIN_VALUE, MAX = Integer.MAX_VALUE;
+        static final int[] MANY = {MIN, -1, 0, 1, 2, 3, 4, 5, 6, 7, 8, 9, 10, 12, 13, 20, 21, 39, 40, 41, 59, 60, 61, 98, 99, 100, 998, 999,
+            1000, 9999, 10000, MAX - 1, MAX};
+        static final int[] SOME = {MIN, -1, 0, 1, 3, 4, 5, 6, 8, 9, 12, 13, 998, 999, 1000, MAX};
+        static final int[] FEW = {MIN, -1, 0, 1, 2, 5, 6, 40, MAX};
+        static final String CHANGE_PLACES_ALONE = "lay copy put";
+
+        final int stage;
+        final String name;
+        Run run;
+
+        Sweep(int stage, String name) {
+            this.stage = stage;
+            this.name = name;
+        }
+
+        int go() {
+            int n = numbersOf(name);
+            int[] among = n <= 2 ? MANY : n == 3 ? SOME : FEW;
+            int[] v = new int[n];
+            int all = 1;
+            for (int i = 0; i < n; i++) {
+                all *= among.length;
+            }
+            for (int code = 0; code < all; code++) {
+                int rest = code;
+                for (int i = 0; i < n; i++) {
+                    v[i] = among[rest % among.length];
+                    rest /= among.length;
+                }
+                tryIt(v);
+            }
+            return all;
+        }
+
+        void tryIt(int[] v) {
+            if (run == null || run.calls + 1 + QUESTIONS > CALLS) {
+                run = new Run(0);
+                check(run.setUp(stage));
+            }
+            long before = run.m.digest();
+            check(run.same(name, v));
+            check(run.questions());
+            if (run.m.digest() != before && !CHANGE_PLACES_ALONE.contains(name)) {
+                run = null;
+            }
+        }
+
+        void check(String wrong) {
+            if (wrong != null) {
+                System.out.println("stage " + stage + ", " + run.told + ": " + wrong);
+                System.exit(1);
+            }
+        }
+
+        static int numbersOf(String name) {
+            for (Method m : HalvedCow.class.getMethods()) {
+                if (m.getName().equals(name)) {
+                    return m.getParameterCount();
+                }
+            }
+            throw new IllegalStateException("no call " + name);
+        }
     }
 
     private static final class Run {
@@ -33,19 +114,56 @@ public final class ModelTest {
         final HalvedCow x = new HalvedCow();
         final Model m = new Model();
         final List<String> told = new ArrayList<>();
+        int calls = 0;
 
         Run(int seed) {
             random = new Random(seed);
         }
 
         String go() {
-            for (int k = 0; k < CALLS; k++) {
+            // FARMS are written by some 65 calls at most.
+            for (int k = 0; calls + 65 + QUESTIONS <= CALLS; k++) {
                 String wrong = k % 40 == 0 && random.nextInt(4) > 0 ? writeFarms() : call(CALLS_BY_NAME[random.nextInt(CALLS_BY_NAME.length)]);
+                wrong = wrong == null ? question(random.nextInt(QUESTIONS)) : wrong;
                 if (wrong != null) {
                     return told + ": " + wrong;
                 }
             }
-            return null;
+            String wrong = questions();
+            return wrong == null ? null : told + ": " + wrong;
+        }
+
+        /** 0: new; 1: ROWS and TEXTS without FARMS; 2: the least FARMS; 3: the most, with 59 DEEDS; 4: with 60, and kept ones. */
+        String setUp(int stage) {
+            String wrong = null;
+            if (stage >= 1) {
+                int[] places = {3, 0, 6, -1, 2, 40};
+                for (int r = 0; r < 6 && wrong == null; r++) {
+                    wrong = places[r] < 0 ? null : same("row", r, places[r]);
+                }
+                int[][] laid = {{0, 0, 7}, {0, 2, -5}, {2, 0, 999}, {2, 1, 1}, {2, 2, 6}, {2, 4, 1}, {2, 5, 1}, {4, 0, 1000}, {5, 39, 3}};
+                for (int k = 0; k < laid.length && wrong == null; k++) {
+                    wrong = same("lay", laid[k]);
+                }
+                wrong = wrong == null ? write(0, stage <= 2 ? "tbm9x1b" : "tabbabaabm503184c5ad6by4au3bh2ax4b") : wrong;
+                wrong = wrong == null ? write(3, "tab") : wrong;
+                wrong = wrong == null ? same("text", 1, 0) : wrong;
+            }
+            wrong = wrong == null && stage >= 2 ? same("farms", 0) : wrong;
+            wrong = wrong == null && stage >= 4 ? same("keep", 2) : wrong;
+            for (int k = 0; stage >= 3 && k < 3 && wrong == null; k++) {
+                wrong = same("lots", k == 2 && stage == 3 ? 19 : 20, 77 + k);
+                wrong = wrong == null && stage >= 4 && k == 0 ? same("keep", 0) : wrong;
+            }
+            return wrong;
+        }
+
+        String write(int t, String signs) {
+            String wrong = same("text", t, signs.length());
+            for (int i = 0; i < signs.length() && wrong == null; i++) {
+                wrong = same("put", t, i, signs.charAt(i));
+            }
+            return wrong;
         }
 
         int among(int... vs) {
@@ -97,10 +215,7 @@ public final class ModelTest {
                 s.setLength(60);
             }
             int t = random.nextInt(4);
-            String wrong = same("text", t, s.length());
-            for (int i = 0; i < s.length() && wrong == null; i++) {
-                wrong = same("put", t, i, s.charAt(i));
-            }
+            String wrong = write(t, s.toString());
             wrong = wrong == null ? same("fault", t) : wrong;
             return wrong == null ? same("farms", t) : wrong;
         }
@@ -156,16 +271,36 @@ public final class ModelTest {
 
         String same(String name, int... v) {
             told.add(name + Arrays.toString(v));
+            calls++;
             long got = ask(x, name, v);
             long want = m.answer(name, v);
-            if (got != want) {
-                return "answered " + got + ", due is " + want;
+            return got == want ? null : "answered " + got + ", due is " + want;
+        }
+
+        String questions() {
+            for (int q = 0; q < QUESTIONS; q++) {
+                String wrong = question(q);
+                if (wrong != null) {
+                    return wrong;
+                }
             }
-            long[] after = {x.asked(), x.upper(), x.lower(), x.finding(), x.digest(),
-                x.findings(1), x.findings(2), x.findings(3), x.findings(4), x.findings(5)};
-            long[] due = {m.asked, m.upper, m.lower, m.finding, m.digest(),
-                m.findings[1], m.findings[2], m.findings[3], m.findings[4], m.findings[5]};
-            return Arrays.equals(after, due) ? null : "left " + Arrays.toString(after) + ", due is " + Arrays.toString(due);
+            return null;
+        }
+
+        String question(int q) {
+            calls++;
+            switch (q) {
+                case 0: return left("asked()", x.asked(), m.asked);
+                case 1: return left("upper()", x.upper(), m.upper);
+                case 2: return left("lower()", x.lower(), m.lower);
+                case 3: return left("finding()", x.finding(), m.finding);
+                case 4: return left("digest()", x.digest(), m.digest());
+                default: return left("findings()", x.findings(q - 4), m.findings[q - 4]);
+            }
+        }
+
+        static String left(String what, long got, long want) {
+            return got == want ? null : "then " + what + " answered " + got + ", due is " + want;
         }
 
         static long ask(HalvedCow x, String name, int[] v) {
