@@ -498,6 +498,7 @@ public final class BoundaryTest {
         says("The first item is t (116) and TURNS (1 to 8 letters a (97): FARM 0, b (98): FARM 1, as many as stand together).");
         faulty("sam0c1a", 0);
         faulty("uam0c1a", 0);
+        faulty("am0c1a", 0);
         faulty("tm0c1a", 1);
         faulty("t`m0c1a", 1);
         faulty("tcm0c1a", 1);
@@ -516,6 +517,7 @@ public final class BoundaryTest {
         says("The second one is m (109) and MILK (1 to 6 figures 0 .. 9, as many as stand together).");
         faulty("tal0c1a", 2);
         faulty("tan0c1a", 2);
+        faulty("ta0c1a", 2);
         faulty("tamc1a", 3);
         faulty("tam/c1a", 3);
         faulty("tam:c1a", 3);
@@ -1670,6 +1672,7 @@ public final class BoundaryTest {
         HalvedCow lead = with("tabb m900000 c1a");
         due("MILK of the DAYS ahead of d counts", lead.quarrel(3, 1, 2), 3);
         due("MILK of DAY d counts once", with("tba m12 c1a").quarrel(1, 0, 2), 2);
+        due("MILK of DAYS behind does not count", with("tba m12 c1a").quarrel(0, 0, 2), 2);
         due("MILK of DAYS up to d alone counts", with("tab m1 c1a").quarrel(1, 0, 2), 1);
         due("MILK of the DAY ahead of d counts", with("tbaab m430000 c1a").quarrel(2, 0, 2), 2);
         says("NONE: none.");
